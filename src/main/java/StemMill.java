@@ -46,26 +46,20 @@ public final class StemMill {
     private static final int MOST_PIECES = 1000;
     private static final int MOST_LADDER = 100000;
 
+    private final Bucking bucking;
     private final Stem stem;
     private final LogKind[] kinds;
-    private final Bucking bucking;
+    private final Sawing sawing;
     private final BoardSize[] sizes;
     private final Orders orders;
-    private final Sawing sawing;
 
     public StemMill(int n) {
-        stem = new Stem(within(n, 1, LONGEST_STEM) ? n : USUAL_STEM);
-        kinds = new LogKind[KINDS];
-        for (int kind = 0; kind < KINDS; kind++) {
-            kinds[kind] = new LogKind();
-        }
-        bucking = new Bucking(stem, kinds);
-        sizes = new BoardSize[SIZES];
-        for (int size = 0; size < SIZES; size++) {
-            sizes[size] = new BoardSize();
-        }
-        orders = new Orders();
-        sawing = new Sawing(sizes, orders);
+        bucking = new Bucking(within(n, 1, LONGEST_STEM) ? n : USUAL_STEM);
+        stem = bucking.stem;
+        kinds = bucking.kinds;
+        sawing = new Sawing();
+        sizes = sawing.sizes;
+        orders = sawing.orders;
     }
 
     public boolean diameter(int point, int mm) {
@@ -342,7 +336,7 @@ public final class StemMill {
     /** Makes cuttings of the stem and keeps the latest. */
     private static final class Bucking {
         final Stem stem;
-        final LogKind[] kinds;
+        final LogKind[] kinds = new LogKind[KINDS];
         // The greatest value of logs that begin at a point or behind it; one more point ends the stem.
         final int[] best;
         // The kind of the log that begins at a point in that cutting, NONE if none does.
@@ -351,11 +345,13 @@ public final class StemMill {
         // A cutting that is refused halfway must leave the bucked one as it was.
         Cutting spare = new Cutting();
 
-        Bucking(Stem stem, LogKind[] kinds) {
-            this.stem = stem;
-            this.kinds = kinds;
-            best = new int[stem.last + 2];
-            chosen = new int[stem.last + 1];
+        Bucking(int last) {
+            stem = new Stem(last);
+            best = new int[last + 2];
+            chosen = new int[last + 1];
+            for (int kind = 0; kind < KINDS; kind++) {
+                kinds[kind] = new LogKind();
+            }
         }
 
         int cutBest() {
@@ -566,20 +562,17 @@ public final class StemMill {
     private static final class Chain {
         // The widest row, 9000 tenths, and the kerf that its last board does not need.
         private static final int FARTHEST = 9100;
-        private static final int UNREACHED = -1;
-        private static final int REACHED = -2;
+        private static final int REACHED = -1;
 
         final int[] steps = new int[SIZES];
         final int[] prices = new int[SIZES];
         final int[] limits = new int[SIZES];
-        // What can be gained from a place on. Few places are reached at all: the others cost no work.
+        // What can be gained from a place on. Few places are reached at all: the others are neither worked out nor
+        // read, so what an earlier chain left there does no harm; it leaves no place as REACHED.
         final int[] gains = new int[FARTHEST + 1];
 
         int solve() {
             int last = farthestLimit();
-            for (int place = 0; place <= last; place++) {
-                gains[place] = UNREACHED;
-            }
             gains[0] = REACHED;
             for (int place = 0; place <= last; place++) {
                 if (gains[place] == REACHED) {
@@ -650,8 +643,8 @@ public final class StemMill {
 
     /** Makes patterns in logs and keeps the latest. */
     private static final class Sawing {
-        final BoardSize[] sizes;
-        final Orders orders;
+        final BoardSize[] sizes = new BoardSize[SIZES];
+        final Orders orders = new Orders();
         // 0 until it is told.
         final int[] heights = new int[HEIGHTS];
         int gap;
@@ -661,9 +654,10 @@ public final class StemMill {
         Pattern latest = new Pattern();
         Pattern trial = new Pattern();
 
-        Sawing(BoardSize[] sizes, Orders orders) {
-            this.sizes = sizes;
-            this.orders = orders;
+        Sawing() {
+            for (int size = 0; size < SIZES; size++) {
+                sizes[size] = new BoardSize();
+            }
         }
 
         int sawThrough(int top, int grade) {

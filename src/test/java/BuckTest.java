@@ -14,6 +14,7 @@ public final class BuckTest {
         byHand();
         byHandRefused();
         factsStay();
+        manyCuttings();
         for (int seed = 1; seed <= 400; seed++) {
             new Weighed(seed).compare();
         }
@@ -164,6 +165,23 @@ public final class BuckTest {
         CHECKS.missing("log(-1, 0)", () -> mill.log(-1, 0));
         CHECKS.missing("log(least, 0)", () -> mill.log(Integer.MIN_VALUE, 0));
         CHECKS.missing("log(most, most)", () -> mill.log(Integer.MAX_VALUE, Integer.MAX_VALUE));
+    }
+
+    private static void manyCuttings() {
+        StemMill mill = new StemMill(10);
+        mill.logKind(0, 4, 0);
+        mill.priceOf(0, 1, 1, 100);
+        for (int i = 0; i < 3; i++) {
+            CHECKS.due("buck()", mill.buck(), 200);
+            CHECKS.due("logs()", mill.logs(), 2);
+            CHECKS.due("first log", mill.log(0, 0), 1);
+            CHECKS.due("byHand(13)", mill.byHand(13), 100);
+            CHECKS.due("logs()", mill.logs(), 1);
+            CHECKS.due("first log", mill.log(0, 0), 2);
+            CHECKS.due("byHand(1, 2)", mill.byHand(0x0201), StemMill.NONE);
+            CHECKS.due("logs()", mill.logs(), 1);
+            CHECKS.due("first log", mill.log(0, 0), 2);
+        }
     }
 
     /** A small stem whose cuttings are all made and compared by the document's words. */

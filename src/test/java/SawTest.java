@@ -16,6 +16,7 @@ public final class SawTest {
         equalStacks();
         logAsItWasBucked();
         patternStays();
+        manyPatterns();
         largest();
         int sawn = 0;
         int cants = 0;
@@ -245,6 +246,28 @@ public final class SawTest {
         CHECKS.due("logs()", mill.logs(), 0);
         CHECKS.due("cant", mill.cant(), 600);
         boards("the latest pattern", mill, new int[][] {{0, 0, 0, 13}, {0, 0, 400, 13}});
+    }
+
+    private static void manyPatterns() {
+        StemMill mill = Mills.withLog(100, 1);
+        mill.size(0, 400, 600);
+        mill.size(1, 100, 600);
+        mill.boardPrice(0, 1, 50);
+        mill.boardPrice(1, 1, 10);
+        for (int i = 0; i < 3; i++) {
+            mill.height(0, 600);
+            for (int again = 0; again < 3; again++) {
+                CHECKS.due("saw with a cant", mill.saw(0), 120);
+                boards("with a cant", mill, new int[][] {
+                    {0, 0, 0, 50}, {0, 0, 400, 50}, {1, 1, 800, 10}, {1, 2, 800, 10}});
+            }
+            mill.height(0, 601);
+            for (int again = 0; again < 3; again++) {
+                CHECKS.due("saw without one", mill.saw(0), 50);
+                CHECKS.due("cant", mill.cant(), StemMill.NONE);
+                boards("without one", mill, new int[][] {{0, 1, 800, 50}});
+            }
+        }
     }
 
     private static void largest() {
