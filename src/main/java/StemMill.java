@@ -197,7 +197,8 @@ public final class StemMill {
     }
 
     public boolean fits(int size, int n, int top) {
-        if (!isToldSize(size) || !within(n, 1, MOST_ASKED) || !within(top, 0, MOST_DIAMETER)) {
+        // The top of a log is a diameter of the stem; only a kind may ask for less.
+        if (!isToldSize(size) || !within(n, 1, MOST_ASKED) || !within(top, LEAST_DIAMETER, MOST_DIAMETER)) {
             return false;
         }
         BoardSize asked = sizes[size];

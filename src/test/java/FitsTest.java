@@ -5,6 +5,7 @@ public final class FitsTest {
     public static void main(String[] args) {
         byTheRule();
         wrongNumbers();
+        topsOfLogs();
         widest();
         everyTop();
         CHECKS.end();
@@ -45,6 +46,25 @@ public final class FitsTest {
         CHECKS.refused("top 901", mill.fits(0, 1, 901));
         CHECKS.refused("top -900", mill.fits(0, 1, -900));
         CHECKS.refused("top 0", mill.fits(0, 1, 0));
+    }
+
+    /** A log has a top of 50 .. 900, as the points of the stem have, whatever would stand in the circle. */
+    private static void topsOfLogs() {
+        StemMill mill = new StemMill(12);
+        mill.size(2, 100, 120);
+        mill.kerf(30);
+        for (int top = 0; top < 50; top++) {
+            CHECKS.refused("one in top " + top, mill.fits(2, 1, top));
+        }
+        CHECKS.taken("one in top 50", mill.fits(2, 1, 50));
+        CHECKS.taken("one in top 900", mill.fits(2, 1, 900));
+        CHECKS.refused("one in top 901", mill.fits(2, 1, 901));
+        // 3 * 100 + 2 * 30 = 360 stands in the least log, 4 * 100 + 3 * 30 = 490 does not.
+        CHECKS.taken("three in top 50", mill.fits(2, 3, 50));
+        CHECKS.refused("four in top 50", mill.fits(2, 4, 50));
+        CHECKS.refused("one in the greatest number", mill.fits(2, 1, Integer.MAX_VALUE));
+        CHECKS.refused("one in the least number", mill.fits(2, 1, Integer.MIN_VALUE));
+        CHECKS.refused("one in a top of which ten wrap around to 1004", mill.fits(2, 1, 429496830));
     }
 
     private static void widest() {
