@@ -9,6 +9,7 @@ public final class CuttingEdgesTest {
         anEmptyCuttingIsBuckedToo();
         shortestStem();
         onePointBehind();
+        noPointInTwoLogs();
         fullStem();
         farthestFirst();
         thenTheLowestKind();
@@ -85,6 +86,22 @@ public final class CuttingEdgesTest {
             cutting("a point too few", withKind(cut - 1, 1, length, 3), 3, new int[][] {{length, 1}});
             cutting("a point more", withKind(cut + 1, 1, length, 3), 6, new int[][] {{1, 1}, {length + 2, 1}});
         }
+    }
+
+    private static void noPointInTwoLogs() {
+        // Logs 0 .. 2 (class 2) and 2 .. 4 (class 1) would share point 2.
+        StemMill mill = withKind(4, 0, 2, 3);
+        mill.priceOf(0, 2, 1, 10);
+        for (int point = 0; point <= 2; point++) {
+            mill.diameter(point, 100);
+        }
+        cutting("the dearer one alone", mill, 10, new int[][] {{0, 0}});
+        mill.priceOf(0, 1, 1, 10);
+        cutting("the farther one alone", mill, 10, new int[][] {{2, 0}});
+        CHECKS.due("nor by hand", mill.byHand(0x0101), StemMill.NONE);
+        mill.logKind(1, 1, 0);
+        CHECKS.due("a shorter second one", mill.byHand(0x0201), 10);
+        CHECKS.due("begins a point behind", mill.log(1, 0), 3);
     }
 
     private static void fullStem() {

@@ -351,6 +351,12 @@ public final class PatternEdgesTest {
         mill.boardPrice(2, 1, 1);
         sawn(mill, "the least price is one", 26, 600, new int[][] {{1, 0, 0, 10}, {1, 0, 400, 10},
             {2, 1, 700, 1}, {2, 1, 800, 1}, {2, 1, 900, 1}, {2, 2, 700, 1}, {2, 2, 800, 1}, {2, 2, 900, 1}});
+        mill.boardPrice(2, 1, 0);
+        tell(mill, 1, 370, 600, 10);
+        sawn(mill, "nothing in the gap of the row", 20, 600, new int[][] {{1, 0, 0, 10}, {1, 0, 370, 10}});
+        mill.boardPrice(0, 1, 1);
+        sawn(mill, "one in the gap, two above, two below", 25, 600, new int[][] {{0, 0, 0, 1}, {1, 0, 50, 10},
+            {1, 0, 420, 10}, {0, 1, 700, 1}, {0, 1, 800, 1}, {0, 2, 700, 1}, {0, 2, 800, 1}});
     }
 
     /** Of several that of the lowest height, in tenths, whatever the numbers of heights and sizes are. */

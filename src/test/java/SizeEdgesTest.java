@@ -177,7 +177,8 @@ public final class SizeEdgesTest {
 
     private static void refusedPriceChangesNothing() {
         StemMill mill = oneBoard(0, 3, 1000000);
-        int[][] wrong = {{0, 3, -1}, {0, 3, 1000001}, {0, 0, 1}, {0, 4, 1}, {-1, 3, 1}, {6, 3, 1}, {1, 3, 1}, {1, 0, 1}};
+        int[][] wrong = {{0, 3, -1}, {0, 3, 1000001}, {0, 0, 1}, {0, 4, 1}, {-1, 3, 1}, {6, 3, 1}, {1, 3, 1},
+            {1, 0, 1}};
         for (int[] one : wrong) {
             CHECKS.refused("boardPrice", mill.boardPrice(one[0], one[1], one[2]));
             CHECKS.due("the price is as it was", mill.saw(0), 1000000);
