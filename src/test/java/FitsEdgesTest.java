@@ -11,6 +11,7 @@ public final class FitsEdgesTest {
         everyTop();
         numbersThatWrapAround();
         nothingElseIsAsked();
+        narrowSizes();
         changesNothing();
         CHECKS.end();
     }
@@ -124,6 +125,18 @@ public final class FitsEdgesTest {
         mill.need(4, 7);
         CHECKS.taken("a price, another height, a need", mill.fits(4, 2, 50));
         CHECKS.refused("one more", mill.fits(4, 3, 50));
+    }
+
+    /** A size may be narrower than any height that can be told: the rule says all the same what stands. */
+    private static void narrowSizes() {
+        for (int width = 50; width <= 301; width++) {
+            StemMill mill = withSize(1, 100, width);
+            // 500 tenths: boards of 100 in the rest of 500 * 500.
+            for (int n = 1; n <= 5; n++) {
+                boolean stands = 10000 * n * n + width * width <= 250000;
+                CHECKS.due(n + " of 100 by " + width, mill.fits(1, n, 50) ? 1 : 0, stands ? 1 : 0);
+            }
+        }
     }
 
     private static void changesNothing() {
